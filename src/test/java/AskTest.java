@@ -8,6 +8,7 @@ public final class AskTest {
         hatted();
         heirs();
         fitsAndLook();
+        allPairs();
         fleet();
         squall();
         two();
@@ -181,6 +182,12 @@ public final class AskTest {
         Check.due("ring", ring.line(3, 1000000), (3 + 1000000) % 6);
         Check.due("the least of those alike", ring.meets(0, 3, 0), 0);
         Check.due("three steps", ring.meets(0, 3, 1), 3);
+        StormHats five = coast("man 1;man 1;man 1;man 1;man 1;man 1;"
+                + "heir 5 0;heir 0 1;heir 1 2;heir 2 3;heir 3 4;heir 4 0;");
+        for (int n = 0; n < 20; n++) {
+            Check.due("a ring of five, " + n, five.line(0, n), n % 5);
+            Check.due("behind one, " + n, five.line(5, 999000 + n + 1), n % 5);
+        }
         Check.due("his own heir", coast("man 1;heir 0 0;").row(0), 0);
         Check.missing(x, "line", () -> x.line(6, -1));
         Check.illegal(x, "line", () -> x.line(0, -1));
@@ -225,6 +232,18 @@ public final class AskTest {
         Check.missing(x, "look", () -> x.look(-1, 9));
         Check.illegal(x, "look", () -> x.look(0, 2));
         Check.illegal(x, "look", () -> x.look(0, -1));
+    }
+
+    private static void allPairs() {
+        StormHats x = coast("hat 1 0;hat 2 0;hat 3 0;hat 4 0;hat 5 0;hat 6 0;hat 7 0;hat 8 0;"
+                + "ground 0 0;ground 1 1;ground 2 2;ground 3 3;ground 4 4;ground 5 4;man 9;man 9;man 9;man 9;man 9;man 99;");
+        Check.law(x, "force*10+fish+hours/23*99");
+        Check.due("all pairs", x.fits(5, 0), 48);
+        Check.due("told apart at once", x.look(5, 0), 0);
+        Check.due("one left", x.look(5, 1), 1);
+        Check.law(x, "hours/23*(force*10+angle)");
+        Check.due("told apart at last", x.look(5, 0), 23);
+        Check.due("two left", x.look(5, 1), 2);
     }
 
     private static void fleet() {

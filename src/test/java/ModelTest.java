@@ -248,11 +248,11 @@ public final class ModelTest {
             case 0:
                 return same(x::fault, y::fault, "fault", run);
             case 1:
-                return to(3) == 0 && same(x::undo, y::undo, "undo", run);
+                return to(2) == 0 && same(x::undo, y::undo, "undo", run);
             case 2:
                 return to(2) == 0 && same(x::image, y::image, "image", run);
             case 3:
-                return to(3) == 0 && same(x::restore, y::restore, "restore", run);
+                return to(2) == 0 && same(x::restore, y::restore, "restore", run);
             case 4:
             case 5: {
                 int what = near(10);

@@ -111,7 +111,18 @@ public final class TextTest {
         Check.coastFault(x, "  5", 1, 2);
         Check.coastFault(x, "man\t1;", 1, 3);
         Check.coastFault(x, "man 1;\u00ff", 1, 6);
+        Check.coastFault(x, "hatz 1 1;", 1, 0);
+        Check.coastFault(x, "hata 1 1;", 1, 0);
+        Check.coastFault(x, "hat{1 1;", 1, 3);
+        Check.coastFault(x, "hat/1 1;", 1, 3);
+        Check.coastFault(x, "hat:1 1;", 1, 3);
         Check.coastFault(x, "hat 0 8;", 2, 4);
+        Check.coastFault(x, "hat 13 0;", 2, 4);
+        Check.coastFault(x, "hat 12 8;", 2, 7);
+        Check.coastFault(x, "ground 999 8;", 2, 11);
+        Check.coastFault(x, "man 0;", 2, 4);
+        Check.coastFault(x, "man 100;", 2, 4);
+        Check.coastFault(x, "man 1;heir 0 1;man 1;", 2, 13);
         Check.coastFault(x, "hat 99999999999999999999 0;", 2, 4);
         Check.coastFault(x, "hat 4294967297 0;", 2, 4);
         Check.coastFault(x, "ground 1000 0;", 2, 7);
@@ -163,6 +174,10 @@ public final class TextTest {
         Check.due("six of all", by(x, "(least[9,most[1,(least[8,(4)])]])"), 4);
         Check.due("nested", by(x, "least[most[1,2]*3,most[4,5]]"), 5);
         Check.due("150 bytes", by(x, "1" + "+1".repeat(74) + " "), 75);
+        Check.coast(x, "");
+        Check.due("no law again", x.would(9, 1, 0, 1, 0, 0, 0, 0), 23);
+        Check.due("deep", by(x, "1+2*(3+4*(5+6*least[7,8+9*most[1,2+3*(4+5*(6+7%8))]]))"), 99);
+        Check.due("deep", by(x, "1-2*(3-4*(5-6*least[7,8-9*most[1,2-3*(4-5*(6-7%8))]]))"), 83);
         Check.due("fault", x.fault(), -1);
         Check.feed(x, "1" + " ".repeat(159));
         Check.illegal(x, "law(151)", () -> x.law(151));
@@ -204,6 +219,7 @@ public final class TextTest {
     }
 
     private static void works() {
+        Check.due("thirty steps in 150 bytes", Check.work(new StormHats(), "hour;".repeat(30)), 30);
         StormHats x = new StormHats();
         Check.coast(x, "hat 5 0;hat 6 0;ground 50 0;man 99;man 98;");
         Check.due("empty", Check.work(x, ""), 0);

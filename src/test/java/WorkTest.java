@@ -244,6 +244,32 @@ public final class WorkTest {
         Check.due("undo", x.undo(), 0);
         Check.due("bare", x.man(0, 2), -1);
         Check.due("none", x.restore(), -1);
+        worksOfImages();
+    }
+
+    /** The WORKS of an IMAGE come back, whatever was done in their places since. */
+    private static void worksOfImages() {
+        StormHats x = coast("hat 5 0;ground 50 0;man 40;");
+        doing(x, "hour;", 1, 0);
+        doing(x, "hour;", 1, 0);
+        x.image();
+        x.undo();
+        x.undo();
+        doing(x, "wear 0 0;", 1, 0);
+        doing(x, "oil 0;", 1, 0);
+        doing(x, "oil 0;", 1, 0);
+        x.image();
+        doing(x, "oil 0;", 1, 0);
+        Check.due("restore", x.restore(), 1);
+        Check.due("works", x.count(2), 3);
+        Check.due("restore", x.restore(), 0);
+        Check.due("works", x.count(2), 2);
+        Check.due("hour", x.told(3), 2);
+        Check.due("undo", x.undo(), 1);
+        Check.due("hour", x.told(3), 1);
+        Check.due("bare", x.told(6), 0);
+        Check.due("undo", x.undo(), 0);
+        Check.due("hour", x.told(3), 0);
     }
 
     private static void refusals() {
