@@ -71,8 +71,11 @@ public final class ModelTest {
         return dice.nextInt(n);
     }
 
-    /** Mostly 0 to most, now and then just beside. */
+    /** Mostly 0 to most, now and then just beside, or far away. */
     private int near(int most) {
+        if (to(120) == 0) {
+            return to(2) == 0 ? Integer.MIN_VALUE + to(3) : Integer.MAX_VALUE - to(3);
+        }
         return to(30) == 0 ? to(2) * (most + 2) - 1 : to(most + 1);
     }
 
