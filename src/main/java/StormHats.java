@@ -19,6 +19,7 @@ public final class StormHats {
     private static final int LAST_HOUR = 900;
     private static final int DAY = 24;
     private static final int ROUGHEST = 99;
+    private static final int MOST_OF_ALL = 2147483647;
 
     private static final int FAULT_PLACE = 1;
     private static final int FAULT_NUMBER = 2;
@@ -405,7 +406,7 @@ public final class StormHats {
         needWithin(q, 0, 16);
         needWithin(hours, 1, 96);
         needWithin(what, 0, 2);
-        int least = Integer.MAX_VALUE;
+        int least = MOST_OF_ALL;
         int most = 0;
         int unharmed = 0;
         for (int i = 0; i < many; i++) {
@@ -533,39 +534,18 @@ public final class StormHats {
             }
             stop = start;
             number = 0;
-            if (start >= length) {
-                kind = END;
-            } else if (isDigit(bytes[start])) {
+            kind = start < length ? SIGN : END;
+            while (stop < length && bytes[stop] >= '0' && bytes[stop] <= '9') {
                 kind = NUMBER;
-                passDigits();
-            } else if (isLetter(bytes[start])) {
+                // Digits without end would wrap: all that is too much is alike.
+                number = number < TOO_MUCH ? number * 10 + bytes[stop] - '0' : TOO_MUCH;
+                stop++;
+            }
+            while (kind != NUMBER && stop < length && bytes[stop] >= 'a' && bytes[stop] <= 'z') {
                 kind = WORD;
-                passLetters();
-            } else {
-                kind = SIGN;
                 stop++;
             }
-        }
-
-        private void passDigits() {
-            while (stop < length && isDigit(bytes[stop])) {
-                number = Math.min(TOO_MUCH, number * 10 + bytes[stop] - '0');
-                stop++;
-            }
-        }
-
-        private void passLetters() {
-            while (stop < length && isLetter(bytes[stop])) {
-                stop++;
-            }
-        }
-
-        private static boolean isDigit(byte sign) {
-            return sign >= '0' && sign <= '9';
-        }
-
-        private static boolean isLetter(byte sign) {
-            return sign >= 'a' && sign <= 'z';
+            stop += kind == SIGN ? 1 : 0;
         }
 
         boolean isFaulty() {
@@ -581,7 +561,7 @@ public final class StormHats {
         }
 
         boolean isSign(char sign) {
-            return !isFaulty() && kind == SIGN && bytes[start] == sign;
+            return faultCode == 0 && kind == SIGN && start < length && bytes[start] == sign;
         }
 
         boolean isWord(String word) {
@@ -598,7 +578,7 @@ public final class StormHats {
 
         /** The token read last is a FAULT, if there is none yet. */
         void fail(int code) {
-            if (!isFaulty()) {
+            if (faultCode == 0) {
                 faultCode = code;
                 faultPlace = start;
             }
@@ -727,8 +707,8 @@ public final class StormHats {
         }
 
         int angleOf(int hat, int ground) {
-            int apart = Math.abs(hatSide[hat] - groundSide[ground]);
-            return Math.min(apart, SIDES - apart);
+            int apart = hatSide[hat] - groundSide[ground] & SIDES - 1;
+            return apart <= SIDES / 2 ? apart : SIDES - apart;
         }
 
         int heirAfter(int man, int n) {
@@ -754,7 +734,7 @@ public final class StormHats {
 
         int meetingOf(int man, int other) {
             int meeting = NONE;
-            int fewest = Integer.MAX_VALUE;
+            int fewest = MOST_OF_ALL;
             for (int there = 0; there < men; there++) {
                 int one = stepsBetween(man, there);
                 int two = stepsBetween(other, there);
@@ -953,9 +933,9 @@ public final class StormHats {
                 case LEAVE:
                     return two == 0 ? 0 : one % two;
                 case LEAST:
-                    return Math.min(one, two);
+                    return one < two ? one : two;
                 default:
-                    return Math.max(one, two);
+                    return one > two ? one : two;
             }
         }
     }
@@ -1448,16 +1428,12 @@ public final class StormHats {
                 case DIE:
                     return days.die(one[here], shore.coast.heir[one[here]]);
                 default:
-                    return passIfEarly(days, shore);
+                    if (days.hour >= LAST_HOUR) {
+                        return false;
+                    }
+                    shore.passHour(days);
+                    return true;
             }
-        }
-
-        private static boolean passIfEarly(Days days, Shore shore) {
-            if (days.hour >= LAST_HOUR) {
-                return false;
-            }
-            shore.passHour(days);
-            return true;
         }
     }
 
@@ -1609,7 +1585,7 @@ public final class StormHats {
 
         private int firstCheapest(int turn, int used, int hats) {
             int first = NONE;
-            int least = Integer.MAX_VALUE;
+            int least = MOST_OF_ALL;
             for (int worn = 0; worn < hats; worn++) {
                 if ((used >> worn & 1) == 0 && priceWith(turn, used, worn) < least) {
                     least = priceWith(turn, used, worn);
