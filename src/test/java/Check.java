@@ -96,6 +96,64 @@ final class Check {
         due("fault of book " + text, x.fault(), place);
     }
 
+    /** A new object with a COAST that has no FAULT. */
+    static StormHats made(String text) {
+        StormHats x = new StormHats();
+        due("coast " + text, coast(x, text) >= 0 ? 1 : 0, 1);
+        return x;
+    }
+
+    /** A WORK: how many STEPS were done, and how many REFUSED. */
+    static void doing(StormHats x, String text, int done, int refused) {
+        due("work " + text, work(x, text), done);
+        due("refused by " + text, x.told(10), refused);
+    }
+
+    static void same(String what, String got, String want) {
+        looked++;
+        if (!got.equals(want)) {
+            wrong++;
+            System.out.println(what + ": " + got + ", due is " + want);
+        }
+    }
+
+    /** All that WORK changes, as a text; some 100 calls for a full COAST. */
+    static String daysOf(StormHats x) {
+        StringBuilder b = new StringBuilder("hour " + x.told(3));
+        for (int hat = 0; hat < x.told(0); hat++) {
+            b.append(", hat ").append(x.hat(hat, 2)).append(' ').append(x.hat(hat, 3));
+        }
+        for (int ground = 0; ground < x.told(1); ground++) {
+            b.append(", ground ").append(x.ground(ground, 0)).append(' ').append(x.ground(ground, 2));
+        }
+        for (int man = 0; man < x.told(2); man++) {
+            b.append(", man");
+            for (int what : new int[] {1, 2, 3, 4, 5, 7}) {
+                b.append(' ').append(x.man(man, what));
+            }
+        }
+        return b.toString();
+    }
+
+    /** What a COAST, a LAW and a BOOK tell, and how many WORKS and IMAGES there are. */
+    static String toldOf(StormHats x) {
+        StringBuilder b = new StringBuilder("told");
+        for (int what : new int[] {0, 1, 2, 9, 10}) {
+            b.append(' ').append(x.told(what));
+        }
+        for (int hat = 0; hat < x.told(0); hat++) {
+            b.append(", hat ").append(x.hat(hat, 0)).append(' ').append(x.hat(hat, 1));
+        }
+        for (int ground = 0; ground < x.told(1); ground++) {
+            b.append(", ground ").append(x.ground(ground, 1)).append(' ').append(x.ground(ground, 3));
+        }
+        for (int man = 0; man < x.told(2); man++) {
+            b.append(", man ").append(x.man(man, 0)).append(' ').append(x.man(man, 6));
+        }
+        b.append(", law ").append(x.would(7, 1, 2, 3, 4, 5, 1, 6)).append(' ').append(x.would(3, 0, 1, 1, 0, 0, 0, 1));
+        return b.append(", count ").append(x.count(0)).append(' ').append(x.count(2)).toString();
+    }
+
     /** Ends the test: with exit code 1, if an answer was not the one due. */
     static void end() {
         System.out.println(looked + " answers looked at, " + wrong + " not as due");

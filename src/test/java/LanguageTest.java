@@ -12,7 +12,8 @@ public final class LanguageTest {
         "->", "::", "\\bfinally\\b", "\\bsynchronized\\b", "\\bassert\\b", "Exact\\(", "\\bcatch\\b", "\\btry\\b",
         "\\bpackage\\b", "\\bdouble\\b", "\\bfloat\\b", "\\bSystem\\.(?!arraycopy)", "\\bObject\\b", "\\bvar\\b",
         "\\bhashCode\\b", "\\btoString\\b", "\\bprotected\\b", "\\bstatic \\{", "\\[\\]\\[\\]\\[\\]", "\\bwhile \\(true\\)",
-        "\\bfor \\(;;\\)",
+        "\\bfor \\(;;\\)", "\\bInteger\\.(?!bitCount\\()", "\\bLong\\.", "\\bMath\\.(?!(min|max|abs)\\()",
+        "\\bArrays\\.(?!fill\\()", "\\bString\\.",
     };
     private static final List<String> IMPORTS = List.of("java.util.Arrays", "java.util.NoSuchElementException");
 
