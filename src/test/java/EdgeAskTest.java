@@ -459,6 +459,8 @@ public final class EdgeAskTest {
         gives(x, 6 + 10, -1, 3, -1, 0);
         Check.doing(x, "die 3;", 1, 0);
         gives(x, 5, -1, 0, -1, -1);
+        Check.coast(x, "hat 5 0;hat 9 0;hat 7 0;ground 30 0;man 9;man 9;man 9;");
+        gives(x, 63, 0, 1, 2);
         Check.coast(x, "hat 5 0;hat 9 0;ground 30 0;man 9;man 9;");
         gives(x, 42, 0, 1);
     }
@@ -602,6 +604,9 @@ public final class EdgeAskTest {
         Check.due("both", x.fits(0, 1), 10);
         Check.book(x, "23 24;0 2;");
         Check.due("not both", x.fits(0, 0), 0);
+        Check.book(x, "0 2;1 3;2 4;3 5;4 6;5 7;6 8;23 25;");
+        Check.due("eight lines", x.fits(0, 0), 1);
+        Check.due("eight lines", x.fits(0, 1), 10);
     }
 
     // "LOOK: the hour (0 to 23) in no line"
