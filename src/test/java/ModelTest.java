@@ -5,11 +5,14 @@ import java.util.Random;
 public final class ModelTest {
     private static final int RUNS = 3000;
     private static final int CALLS = 300;
+    // One run of so many goes on near the last HOUR.
+    private static final int LONG_RUNS = 10;
 
     private final Random dice;
     private final StormHats x = new StormHats();
     private final Model y = new Model();
     private String called = "";
+    private boolean strayed;
 
     private ModelTest(long seed) {
         dice = new Random(seed);
@@ -27,18 +30,32 @@ public final class ModelTest {
     }
 
     private boolean differs(int run) {
+        boolean longRun = run % LONG_RUNS == 0;
         for (int i = 0; i < CALLS; i++) {
-            if (i == 0 || to(40) == 0) {
+            if (i == 0 || !longRun && to(40) == 0) {
                 put(coastText());
                 int n = tapeLength();
-                if (same(() -> x.coast(n), () -> y.coast(n), "coast", run)) {
-                    return true;
-                }
-            } else if (step(run)) {
+                strayed |= same(() -> x.coast(n), () -> y.coast(n), "coast", run);
+                strayed |= longRun && passManyHours(run);
+            } else {
+                strayed |= step(run);
+            }
+            if (strayed) {
                 return true;
             }
         }
         return false;
+    }
+
+    /** Up to the last HOUR or close by: WORKS of some 190 HOURS, as many as can be undone, or few enough for some more. */
+    private boolean passManyHours(int run) {
+        boolean differs = false;
+        for (int i = 4 + to(13); i > 0; i--) {
+            put("again 30[again 30[hour;];];");
+            int n = tapeLength();
+            differs |= same(() -> x.work(n), () -> y.work(n), "work", run);
+        }
+        return differs;
     }
 
     private interface Call {
@@ -91,8 +108,7 @@ public final class ModelTest {
         }
         if (to(4) != 0 || x.count(1) != 0) {
             // Nothing older stays ahead of the text: a law of no bytes takes it away.
-            x.law(0);
-            y.law(0);
+            strayed |= same(() -> x.law(0), () -> y.law(0), "law without bytes", 0);
         }
         called = text;
         length = text.length();
@@ -101,7 +117,7 @@ public final class ModelTest {
             for (int j = 0; j < 20; j++) {
                 five[j / 4] = five[j / 4] << 8 | (i + j < text.length() ? text.charAt(i + j) & 255 : 0);
             }
-            same(() -> x.feed(five[0], five[1], five[2], five[3], five[4]), () -> y.feed(five), "feed", 0);
+            strayed |= same(() -> x.feed(five[0], five[1], five[2], five[3], five[4]), () -> y.feed(five), "feed", 0);
         }
     }
 
